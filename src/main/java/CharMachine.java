@@ -420,15 +420,13 @@ public final class CharMachine {
             for (int k = 0; k < length; k++) {
                 int sum = store.digit(units - k) + digits[k] + carry;
                 carry = sum / 10;
-                store.write(units - k, written(sum % 10));
+                store.write(units - k, written(sum % 10) | (k == 0 ? zone : 0));
             }
-            store.writeZone(units, zone);
             return carry > 0;
         }
 
-        /** Takes the lesser from the greater; answers whether the digits read were greater. */
-        boolean subtract(int units, int length) {
-            boolean greater = isGreater(units, length);
+        /** Takes the lesser from the greater, as isGreater told it. */
+        void subtract(int units, int length, boolean greater) {
             int borrow = 0;
             for (int k = 0; k < length; k++) {
                 int own = store.digit(units - k);
@@ -436,10 +434,10 @@ public final class CharMachine {
                 borrow = rest < 0 ? 1 : 0;
                 store.write(units - k, written(rest + 10 * borrow));
             }
-            return greater;
         }
 
-        private boolean isGreater(int units, int length) {
+        /** Whether the digits that were read are more than the field. */
+        boolean isGreater(int units, int length) {
             for (int k = length - 1; k >= 0; k--) {
                 int difference = digits[k] - store.digit(units - k);
                 if (difference != 0) {
@@ -549,10 +547,10 @@ public final class CharMachine {
 
         private int perform(int operation, int length, int formerA) {
             switch (operation) {
-                case ADD: return add(false);
-                case SUBTRACT: return add(true);
-                case ZERO_AND_ADD: return replace(false);
-                case ZERO_AND_SUBTRACT: return replace(true);
+                case ADD: return calculate(false, false);
+                case SUBTRACT: return calculate(false, true);
+                case ZERO_AND_ADD: return calculate(true, false);
+                case ZERO_AND_SUBTRACT: return calculate(true, true);
                 case MOVE: return move();
                 case LOAD: return load();
                 case MOVE_DIGIT: return moveBits(DIGIT_BITS);
@@ -586,27 +584,7 @@ public final class CharMachine {
             return store.character(i - 1);
         }
 
-        private int add(boolean turned) {
-            int length = store.fieldLength(b);
-            int part = store.fieldLength(a, length);
-            if (length == NONE || part == NONE) {
-                return STOP_NO_POSITION;
-            }
-            boolean minusA = store.isMinus(a) != turned;
-            boolean minusB = store.isMinus(b);
-            arithmetic.readDigits(a, part, length);
-            if (minusA != minusB) {
-                boolean greater = arithmetic.subtract(b, length);
-                store.writeZone(b, signZone(greater ? minusA : minusB));
-            } else if (arithmetic.add(b, length)) {
-                overflow = true;
-            }
-            a -= part;
-            b -= length;
-            return GOES_ON;
-        }
-
-        private int replace(boolean turned) {
+        private int calculate(boolean fromZero, boolean turned) {
             int length = store.fieldLength(b);
             int part = store.fieldLength(a, length);
             if (length == NONE || part == NONE) {
@@ -614,11 +592,26 @@ public final class CharMachine {
             }
             boolean minus = store.isMinus(a) != turned;
             arithmetic.readDigits(a, part, length);
-            arithmetic.replace(b, length);
-            store.writeZone(b, signZone(minus));
+            if (fromZero) {
+                arithmetic.replace(b, length);
+                store.writeZone(b, signZone(minus));
+            } else {
+                addSigned(length, minus);
+            }
             a -= part;
             b -= length;
             return GOES_ON;
+        }
+
+        private void addSigned(int length, boolean minus) {
+            boolean minusB = store.isMinus(b);
+            if (minus == minusB) {
+                overflow = arithmetic.add(b, length) || overflow;
+            } else {
+                boolean greater = arithmetic.isGreater(b, length);
+                arithmetic.subtract(b, length, greater);
+                store.writeZone(b, signZone(greater ? minus : minusB));
+            }
         }
 
         private int move() {

@@ -32,6 +32,7 @@ public final class CompareTest {
         x.seven(0, Op.COMPARE, 605, 625).state(3, 1).a(602).b(622).i(707);
         x.seven(0, Op.COMPARE, 625, 605).state(3, -1).a(622).b(602);
         x.field(605, 5, 2, 1).seven(0, Op.COMPARE, 605, 625).state(3, 0);
+        x.plain(606, 1).plain(626, 2).seven(0, Op.COMPARE, 605, 625).state(3, 0);
         x.is(605, 5, 2, 1).is(625, 5, 2, 1).marks("100", 605).marks("100", 625);
     }
 

@@ -110,8 +110,8 @@ public final class MoveTest {
         Bench x = new Bench(DUE, "Z").field(605, 10, 0, 27, 10, 5, 58).field(625, 9, 9, 9, 9, 9, 9, 9);
         x.seven(0, Op.SUPPRESS, 605, 625).is(625, 9, 0, 0, 0, 0, 5, 10).marks("1000000", 625);
         x.a(599).b(626).i(707).is(605, 10, 0, 27, 10, 5, 58).marks("100000", 605);
-        new Bench(DUE, "Z of nothing").field(605, 10, 27, 10, 42).seven(0, Op.SUPPRESS, 605, 625)
-            .is(625, 0, 0, 0, 0).a(601).b(626);
+        new Bench(DUE, "Z of nothing").field(605, 10, 27, 10, 42).field(626, 10)
+            .seven(0, Op.SUPPRESS, 605, 625).is(626, 0, 0, 0, 0, 10).a(601).b(626);
         new Bench(DUE, "Z keeps zones").field(605, 26, 10, 21).seven(0, Op.SUPPRESS, 605, 625)
             .is(625, 26, 10, 5);
         new Bench(DUE, "Z ends there").field(605, 10, 1, 10, 27, 0, 48).seven(0, Op.SUPPRESS, 605, 625)

@@ -209,7 +209,7 @@ public final class StepTest {
                 x.column(1 + random.nextInt(80), random.nextInt(64));
                 x.card();
             }
-            for (int n = 0; n < 45; n++) {
+            for (int n = 0; n < 25; n++) {
                 x.start(random.nextInt(size));
                 int reason = x.run(1 + random.nextInt(30));
                 DUE.yes("soak: a reason", reason >= 0 && reason <= 6);
