@@ -33,10 +33,15 @@ final class Due {
         }
     }
 
+    /** Whether some answer was looked at, and none was wrong. */
+    boolean isRight() {
+        return looked != 0 && wrong == 0;
+    }
+
     /** Ends the test: exit code 1 if an answer was wrong, or if none was looked at. */
     void end() {
         System.out.println(looked + " answers, " + wrong + " wrong");
-        if (wrong != 0 || looked == 0) {
+        if (!isRight()) {
             System.exit(1);
         }
     }
