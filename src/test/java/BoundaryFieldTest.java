@@ -225,6 +225,8 @@ public final class BoundaryFieldTest {
     private static void lesserFromGreater(Due due) {
         fields(due, "B is greater by one", "122", B, "123", 0).seven(0, Op.ADD, 605, 625).is(625, 10, 10, BA + 1);
         fields(due, "A is greater by one", "123", B, "122", 0).seven(0, Op.ADD, 605, 625).is(625, 10, 10, B + 1);
+        fields(due, "left of the field", "99", B, "01", 0).seven(0, Op.ADD, 605, 625).is(625, 0, 9, B + 8);
+        new Bench(due, "at the start").field(605, 1).field(1, 1, 1).seven(0, Op.SUBTRACT, 605, 1).is(1, 1, BA + 10);
         fields(due, "borrows", "1", B, "100", 0).seven(0, Op.ADD, 605, 625).is(625, 10, 9, BA + 9);
         fields(due, "borrows", "100", B, "001", 0).seven(0, Op.ADD, 605, 625).is(625, 10, 9, B + 9);
         fields(due, "the leftmost decides", "19", B, "21", 0).seven(0, Op.ADD, 605, 625).is(625, 10, BA + 2);
@@ -316,6 +318,8 @@ public final class BoundaryFieldTest {
         y.seven(0, Op.COMPARE, 605, 625).state(3, 1).a(603).b(623);
         Bench z = new Bench(due, "b's mark first").field(605, 9, 1, 5).field(625, 1, 5);
         z.seven(0, Op.COMPARE, 605, 625).state(3, 0).a(603).b(623);
+        Bench v = new Bench(due, "right of the units").field(605, 5).plain(606, 1).field(625, 5).plain(626, 2);
+        v.seven(0, Op.COMPARE, 605, 625).state(3, 0);
         Bench w = new Bench(due, "at the start").field(0, 5).field(625, 5);
         w.seven(0, Op.COMPARE, 0, 625).state(3, 0).a(-1).b(624).seven(0, Op.COMPARE, 625, 0).state(3, 0).b(-1);
     }
