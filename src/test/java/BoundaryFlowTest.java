@@ -193,7 +193,7 @@ public final class BoundaryFlowTest {
     private static void byPositionPlace(Due due) {
         Bench x = new Bench(due, "V").eight(0, Op.TEST, 345, 0, 2).i(345).b(-1).eight(0, Op.TEST, 345, 0, 1).b(-1);
         x.eight(0, Op.TEST, 345, 1399, 2).b(1398).eight(0, Op.TEST, 345, 605, 63).b(604);
-        x.eight(2, Op.TEST, 345, 1400, 2).i(708).a(345).b(1400);
+        x.eight(2, Op.TEST, 345, 1400, 2).i(708).a(345).b(1400).eight(2, Op.TEST, 345, 1400, 63).i(708).b(1400);
     }
 
     private static void read(Due due) {
